@@ -39,27 +39,23 @@ public final class GeneBook {
     private static final int CDSS_MEET = 6;
     private static final int WRONG_PHASE = 7;
 
-    private final Row sequence;
-    private final Row line;
+    private final Sequence sequence;
+    private final Line line;
+    private final Book book;
     private final Row out;
     private final Row spliced;
-    private final Book book;
-    private final Reader reader;
-    private final FrameFinder finder;
 
     public GeneBook() {
-        sequence = new Row(MOST_BASES);
-        line = new Row(MOST_SIGNS);
+        sequence = new Sequence();
+        line = new Line();
+        book = new Book();
         out = new Row(MOST_FEATURES * (MOST_SIGNS + 1));
         // Parts of a whole book's mRNA have no places in common, so they are never longer together.
         spliced = new Row(MOST_BASES);
-        book = new Book();
-        reader = new Reader(line);
-        finder = new FrameFinder(sequence);
     }
 
     public boolean bases(long w, int n) {
-        if (!sequence.takes(n)) {
+        if (!sequence.row.takes(n)) {
             return false;
         }
         for (int i = 0; i < n; i++) {
@@ -67,12 +63,12 @@ public final class GeneBook {
                 return false;
             }
         }
-        sequence.putBytes(w, n);
+        sequence.row.putBytes(w, n);
         return true;
     }
 
     public boolean type(long w, int n) {
-        if (!line.takes(n)) {
+        if (!line.row.takes(n)) {
             return false;
         }
         for (int i = 0; i < n; i++) {
@@ -81,32 +77,32 @@ public final class GeneBook {
                 return false;
             }
         }
-        line.putBytes(w, n);
+        line.row.putBytes(w, n);
         return true;
     }
 
     public boolean cut(int n) {
-        if (n < 0 || n > line.size()) {
+        if (n < 0 || n > line.row.size()) {
             return false;
         }
-        line.keep(n);
+        line.row.keep(n);
         return true;
     }
 
     public void clear() {
-        sequence.keep(0);
-        line.keep(0);
+        sequence.row.keep(0);
+        line.row.keep(0);
         book.empty();
     }
 
     public int length() {
-        return sequence.size();
+        return sequence.row.size();
     }
 
     public int add() throws IllegalArgumentException, IllegalStateException,
             NoSuchElementException, UnsupportedOperationException {
         Feature draft = book.draft();
-        if (!reader.reads(draft, sequence.size())) {
+        if (!line.reads(draft, sequence.row.size())) {
             throw new IllegalArgumentException();
         }
         if (!draft.hasDueAttributes()) {
@@ -118,7 +114,7 @@ public final class GeneBook {
         if (book.isFull()) {
             throw new UnsupportedOperationException();
         }
-        line.keep(0);
+        line.row.keep(0);
         return book.keepDraft();
     }
 
@@ -182,7 +178,7 @@ public final class GeneBook {
         if (code != 1 && code != 2) {
             throw new IllegalArgumentException();
         }
-        return finder.count(code, codons);
+        return sequence.countFrames(code, codons);
     }
 
     public int frame(int code, int codons, int k, int part)
@@ -190,17 +186,17 @@ public final class GeneBook {
         if (code != 1 && code != 2) {
             throw new IllegalArgumentException();
         }
-        int spot = finder.spotOf(code, codons, k);
+        int spot = sequence.spotOfFrame(code, codons, k);
         if (spot == NONE) {
             throw new IndexOutOfBoundsException();
         }
         switch (part) {
             case 0:
-                return finder.codonsAt(code, spot);
+                return sequence.codonsAt(code, spot);
             case 1:
-                return finder.placeAt(spot);
+                return sequence.placeAt(spot);
             case 2:
-                return finder.strandAt(spot);
+                return sequence.strandAt(spot);
             default:
                 throw new IndexOutOfBoundsException();
         }
@@ -229,17 +225,11 @@ public final class GeneBook {
         for (int i = 0; i < parts; i++) {
             Feature part = book.ordered(i);
             int span = part.span();
+            int first = sequence.indexOfFirst(part);
             for (int j = 0; j < span; j++) {
-                spliced.put(baseOf(part, j));
+                spliced.put(sequence.base(part.strand, first + j));
             }
         }
-    }
-
-    private char baseOf(Feature part, int j) {
-        if (part.strand == PLUS) {
-            return sequence.sign(part.start - 1 + j);
-        }
-        return Bases.complement(sequence.sign(part.end - 1 - j));
     }
 
     private void putProtein(int code, int phase) {
@@ -341,7 +331,7 @@ public final class GeneBook {
             }
         }
 
-        // N has the digit 4 so that it begins at 4 & 3, which is 0, and ends at 3: it may be any base.
+        // N has the digit 4: it may be any base, so it goes from 4 & 3, which is 0, to 3.
         static char letter(int code, char a, char b, char c) {
             String letters = code == 1 ? CODE_1 : CODE_2;
             int first = DIGITS.indexOf(a);
@@ -369,7 +359,7 @@ public final class GeneBook {
         private int end;
         private int strand;
         private int phase;
-        /** The words of ID, PARENT and NOTE, a byte for a sign: they compare as numbers; 0 is none. */
+        /** Of ID, PARENT, NOTE: a byte for a sign, so that they compare as numbers; 0 is none. */
         private final long[] words;
         /** The line up to its attributes: only these may be written otherwise than they came. */
         private final Row head;
@@ -438,22 +428,22 @@ public final class GeneBook {
         }
     }
 
-    /** Reads the line into a draft; a draft that is left half read is in no book. */
-    private static final class Reader {
-        private final Row line;
+    private static final class Line {
+        private final Row row;
         private final int[] ends;
 
-        Reader(Row line) {
-            this.line = line;
+        Line() {
+            row = new Row(MOST_SIGNS);
             ends = new int[COLUMNS];
         }
 
+        // A draft that is left half read is in no book, so nothing has changed.
         boolean reads(Feature draft, int lastPlace) {
             draft.empty();
             if (!findColumns()) {
                 return false;
             }
-            draft.head.putBeginning(line, from(8));
+            draft.head.putBeginning(row, from(8));
             return from(0) < ends[0]
                     && isText(1, ".")
                     && readsKind(draft)
@@ -466,8 +456,8 @@ public final class GeneBook {
 
         private boolean findColumns() {
             int found = 0;
-            for (int i = 0; i < line.size(); i++) {
-                if (line.sign(i) == TAB) {
+            for (int i = 0; i < row.size(); i++) {
+                if (row.sign(i) == TAB) {
                     if (found == COLUMNS - 1) {
                         return false;
                     }
@@ -475,7 +465,7 @@ public final class GeneBook {
                     found++;
                 }
             }
-            ends[COLUMNS - 1] = line.size();
+            ends[COLUMNS - 1] = row.size();
             return found == COLUMNS - 1;
         }
 
@@ -485,7 +475,7 @@ public final class GeneBook {
 
         private boolean isText(int column, String text) {
             int from = from(column);
-            return ends[column] - from == text.length() && line.hasAt(from, text);
+            return ends[column] - from == text.length() && row.hasAt(from, text);
         }
 
         private boolean readsKind(Feature draft) {
@@ -512,15 +502,15 @@ public final class GeneBook {
         private int number(int column) {
             int from = from(column);
             int digits = ends[column] - from;
-            if (digits < 1 || digits > 3 || line.sign(from) == '0') {
+            if (digits < 1 || digits > 3 || row.sign(from) == '0') {
                 return NONE;
             }
             int number = 0;
             for (int i = from; i < ends[column]; i++) {
-                if (!isDigit(line.sign(i))) {
+                if (!isDigit(row.sign(i))) {
                     return NONE;
                 }
-                number = 10 * number + (line.sign(i) - '0');
+                number = 10 * number + (row.sign(i) - '0');
             }
             return number;
         }
@@ -539,14 +529,14 @@ public final class GeneBook {
                 draft.phase = NONE;
                 return isText(7, ".");
             }
-            draft.phase = line.sign(from(7)) - '0';
+            draft.phase = row.sign(from(7)) - '0';
             return ends[7] - from(7) == 1 && draft.phase >= 0 && draft.phase <= 2;
         }
 
         private boolean readsAttributes(Feature draft) {
             int from = from(8);
-            for (int i = from; i <= line.size(); i++) {
-                if (i == line.size() || line.sign(i) == ';') {
+            for (int i = from; i <= row.size(); i++) {
+                if (i == row.size() || row.sign(i) == ';') {
                     if (!readsAttribute(draft, from, i)) {
                         return false;
                     }
@@ -560,7 +550,7 @@ public final class GeneBook {
         private boolean readsAttribute(Feature draft, int from, int to) {
             for (int which = ID; which <= NOTE; which++) {
                 String name = Feature.attribute(which);
-                if (line.hasAt(from, name)) {
+                if (row.hasAt(from, name)) {
                     if (draft.words[which] != 0) {
                         return false;
                     }
@@ -577,7 +567,7 @@ public final class GeneBook {
             }
             long word = 0;
             for (int i = to - 1; i >= from; i--) {
-                char sign = line.sign(i);
+                char sign = row.sign(i);
                 if (!isDigit(sign) && !isLetter(sign)) {
                     return 0;
                 }
@@ -791,20 +781,31 @@ public final class GeneBook {
     }
 
     /**
-     * Finds open frames. A spot is where a frame may begin: first the bases of the sequence, one
-     * after the other, and behind them those of its complement, so that spots are in order.
+     * The sequence on both strands. A spot is where an open frame may begin: first the bases, one
+     * after the other, and behind them those of the complement, so that frames come in order.
      */
-    private static final class FrameFinder {
-        private final Row sequence;
+    private static final class Sequence {
+        private final Row row;
 
-        FrameFinder(Row sequence) {
-            this.sequence = sequence;
+        Sequence() {
+            row = new Row(MOST_BASES);
         }
 
-        int count(int code, int codons) {
+        char base(int strand, int i) {
+            if (strand == PLUS) {
+                return row.sign(i);
+            }
+            return Bases.complement(row.sign(row.size() - 1 - i));
+        }
+
+        int indexOfFirst(Feature feature) {
+            return feature.strand == PLUS ? feature.start - 1 : row.size() - feature.end;
+        }
+
+        int countFrames(int code, int codons) {
             int least = Math.max(1, codons);
             int found = 0;
-            for (int spot = 0; spot < 2 * sequence.size(); spot++) {
+            for (int spot = 0; spot < 2 * row.size(); spot++) {
                 if (codonsAt(code, spot) >= least) {
                     found++;
                 }
@@ -812,10 +813,10 @@ public final class GeneBook {
             return found;
         }
 
-        int spotOf(int code, int codons, int k) {
+        int spotOfFrame(int code, int codons, int k) {
             int least = Math.max(1, codons);
             int found = 0;
-            for (int spot = 0; spot < 2 * sequence.size(); spot++) {
+            for (int spot = 0; spot < 2 * row.size(); spot++) {
                 if (codonsAt(code, spot) >= least) {
                     if (found == k) {
                         return spot;
@@ -827,22 +828,22 @@ public final class GeneBook {
         }
 
         int strandAt(int spot) {
-            return spot < sequence.size() ? PLUS : MINUS;
+            return spot < row.size() ? PLUS : MINUS;
         }
 
         int placeAt(int spot) {
-            return spot < sequence.size() ? spot + 1 : 2 * sequence.size() - spot;
+            return spot < row.size() ? spot + 1 : 2 * row.size() - spot;
         }
 
         /** How many codons the open frame has that begins there; 0 when none does. */
         int codonsAt(int code, int spot) {
             int strand = strandAt(spot);
-            int begin = spot - strand * sequence.size();
+            int begin = spot - strand * row.size();
             if (!isStart(strand, begin) || hasStartBefore(code, strand, begin)) {
                 return 0;
             }
             int codons = 1;
-            for (int i = begin + 3; i + 3 <= sequence.size(); i += 3) {
+            for (int i = begin + 3; i + 3 <= row.size(); i += 3) {
                 codons++;
                 if (isStop(code, strand, i)) {
                     return codons;
@@ -861,19 +862,15 @@ public final class GeneBook {
         }
 
         private boolean isStart(int strand, int i) {
-            return base(strand, i) == 'A' && base(strand, i + 1) == 'T' && base(strand, i + 2) == 'G';
+            return base(strand, i) == 'A'
+                    && base(strand, i + 1) == 'T'
+                    && base(strand, i + 2) == 'G';
         }
 
         private boolean isStop(int code, int strand, int i) {
-            char letter = Bases.letter(code, base(strand, i), base(strand, i + 1), base(strand, i + 2));
-            return letter == '*';
-        }
-
-        private char base(int strand, int i) {
-            if (strand == PLUS) {
-                return sequence.sign(i);
-            }
-            return Bases.complement(sequence.sign(sequence.size() - 1 - i));
+            char second = base(strand, i + 1);
+            char third = base(strand, i + 2);
+            return Bases.letter(code, base(strand, i), second, third) == '*';
         }
     }
 }

@@ -244,6 +244,8 @@ public final class PromisesTest {
             refused(Texts.tabs(line));
         }
         refused("c . gene 1 2 . + . ID=g");
+        refused("\t".repeat(72));
+        refused("\t".repeat(8));
         refused(Texts.tabs("c . gene 1 2 . + . ID=g") + " ");
         refused(Texts.tabs("c . gene 1 ") + " 2" + Texts.tabs(" . + . ID=g"));
     }
@@ -357,6 +359,9 @@ public final class PromisesTest {
     private static void faultsOfParents() {
         due("an empty book", 0, new GeneBook()::fault);
         fault("whole", 0, 0, G, M, E, "c . CDS 10 50 . + 2 PARENT=m");
+        fault("whole, parents behind", 0, 0, E, "c . CDS 11 12 . + 0 PARENT=m", M, G);
+        fault("whole, a CDS first", 0, 0, "c . CDS 11 12 . + 0 PARENT=m", E, M, G);
+        fault("7, a CDS first", 1, 7, "c . CDS 11 12 . + 0 PARENT=m", "c . CDS 13 14 . + 0 PARENT=m", E, M, G);
         fault("1, an mRNA", 1, 1, G, "c . mRNA 10 50 . + . ID=m;PARENT=h");
         fault("1, an exon", 0, 1, E, G);
         fault("1, a CDS", 2, 1, G, M, "c . CDS 10 50 . + 0 PARENT=g1");
@@ -444,6 +449,11 @@ public final class PromisesTest {
                 "c . CDS 10 11 . + 0 PARENT=m", "c . CDS 10 12 . + 0 PARENT=m");
         fault("6, two before with the same start", 4, 6, G, M, E, "c . CDS 20 22 . + 0 PARENT=m",
                 "c . CDS 10 11 . + 0 PARENT=m", "c . CDS 10 12 . + 0 PARENT=m");
+        String[] down = {G.replace('+', '-'), M.replace('+', '-'), E.replace('+', '-'),
+            "c . CDS 20 22 . - 1 PARENT=m", "c . CDS 49 50 . - 0 PARENT=m", "c . CDS 48 50 . - 0 PARENT=m"};
+        fault("7, two before with the same end", 3, 7, down);
+        down[3] = "c . CDS 20 22 . - 0 PARENT=m";
+        fault("6, two before with the same end", 4, 6, down);
     }
 
     private static void firstFaultCounts() {
@@ -654,6 +664,13 @@ public final class PromisesTest {
         x.clear();
         due("nothing", 0, x::write);
         due("OUT is empty then", 0, () -> x.out(0));
+
+        GeneBook z = onTens(1);
+        ANSWERS.thrown("a line that is no feature", IAE,
+                () -> Texts.add(z, Texts.tabs("long . gene 1 10 . + . ID=g;ID=h")));
+        Texts.add(z, Texts.tabs("c . gene 1 2 . + . NOTE=n;ID=g"));
+        z.write();
+        ANSWERS.due("nothing of it is written", Texts.tabs("c . gene 1 2 . + . ID=g;NOTE=n\n"), Texts.out(z));
 
         GeneBook y = onTens(12);
         StringBuilder all = new StringBuilder();
