@@ -34,6 +34,10 @@ final class Answers {
         }
     }
 
+    int asked() {
+        return asked;
+    }
+
     boolean hasWrong() {
         return !wrong.isEmpty();
     }
