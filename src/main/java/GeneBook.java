@@ -535,8 +535,8 @@ public final class GeneBook {
 
         private boolean readsAttributes(Feature draft) {
             int from = from(8);
-            for (int i = from; i <= row.size(); i++) {
-                if (i == row.size() || row.sign(i) == ';') {
+            for (int i = from; i <= ends[8]; i++) {
+                if (i == ends[8] || row.sign(i) == ';') {
                     if (!readsAttribute(draft, from, i)) {
                         return false;
                     }

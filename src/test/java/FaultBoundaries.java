@@ -206,6 +206,8 @@ final class FaultBoundaries {
             both(has ? 0 : 3, has ? 0 : 5, G, M, exon(20, 30), cds(place[0], place[1], 0));
             both(has ? 0 : 2, has ? 0 : 5, G, M, cds(place[0], place[1], 0), exon(20, 30));
         }
+        both(0, 0, exon(20, 30), cds(20, 30, 0), M, G);
+        both(0, 0, G, M, cds(20, 30, 0), exon(20, 30));
         both(2, 5, G, M, cds(20, 20, 0));
         // Two exons have all places together, but no one of them has.
         both(4, 5, G, M, exon(20, 25), exon(26, 30), cds(25, 26, 0));

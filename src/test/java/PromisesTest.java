@@ -126,8 +126,7 @@ public final class PromisesTest {
         no("type 9", x.type(Texts.word("ACGTACGT"), 9));
         no("type least int", x.type('A', Integer.MIN_VALUE));
         for (int c = 0; c < 256; c++) {
-            ANSWERS.due("character " + c, c == 9 || c >= 32 && c <= 126, x.type(c, 1));
-            x.cut(0);
+            ANSWERS.due("character " + c, c == 9 || c >= 32 && c <= 126, new GeneBook().type(c, 1));
         }
         yes("eight", x.type(Texts.word("abcdefgh"), 8));
         no("one wrong at the end", x.type(Texts.word("abc\n"), 4));
@@ -672,17 +671,16 @@ public final class PromisesTest {
         z.write();
         ANSWERS.due("nothing of it is written", Texts.tabs("c . gene 1 2 . + . ID=g;NOTE=n\n"), Texts.out(z));
 
-        GeneBook y = onTens(12);
+        Run y = Run.on("ACGTACGTAC".repeat(12));
         StringBuilder all = new StringBuilder();
         for (int i = 0; i < 14; i++) {
             String tail = Texts.tabs(" . mRNA 100 120 . + . ID=abcd" + (10 + i) + ";PARENT=abcdef;NOTE=uvwxyz");
             String line = "~".repeat(72 - tail.length()) + tail;
-            int number = i;
-            due("a line of 72", number, () -> Texts.add(y, line));
+            y.put(line);
             all.append(line).append('\n');
         }
-        due("the longest book", 14 * 73, y::write);
-        ANSWERS.due("all of it", all.toString(), Texts.out(y));
+        ANSWERS.due("the longest book", String.valueOf(14 * 73), y.write().value());
+        ANSWERS.due("all of it", all.toString(), y.outText());
     }
 
     // Promise 15

@@ -20,6 +20,7 @@ final class RefusalBoundaries {
     void test() {
         c.section("Terms");
         c.clause("A call that throws or answers false changes nothing", this::changesNothing);
+        c.clause("throws or answers false changes nothing", this::refusedLinesAreNoFeatures);
         c.clause("where several exceptions that a call names fit, it is the one that it names first", () -> {
             firstOfAdd();
             firstOfTell();
@@ -101,6 +102,43 @@ final class RefusalBoundaries {
         typed.line(Texts.tabs(" . gene 1 4 . + . ID=g"));
         c.due(0, typed.add());
         c.text("the name", Texts.tabs("name . gene 1 4 . + . ID=g\n"), typed.written());
+    }
+
+    /** A line that was read and refused has no part in the book, whatever it would have done there. */
+    private void refusedLinesAreNoFeatures() {
+        Run x = Run.on(ROWS, "c . gene 1 12 . + . ID=g", "c . mRNA 1 12 . + . ID=m;PARENT=g",
+                "c . exon 1 6 . + . PARENT=m", "c . CDS 1 3 . + 0 PARENT=m");
+        add(NSEE, x, "c . exon 7 9 . + . ID=g;PARENT=m");
+        add(NSEE, x, "c . exon 6 7 . + . ID=g;PARENT=m");
+        add(NSEE, x, "c . CDS 4 6 . + 0 ID=g;PARENT=m");
+        add(NSEE, x, "c . CDS 3 4 . + 0 ID=g;PARENT=m");
+        add(NSEE, x, "c . CDS 4 6 . + 1 ID=g;PARENT=m");
+        add(NSEE, x, "c . mRNA 1 12 . - . ID=g;PARENT=x");
+        add(ISE, x, "c . exon 1 1 . + . ID=e");
+        add(IAE, x, "c . exon 1 1 . + . PARENT=m;ID=e;");
+        add(IAE, x, "c . exon 1 1 . + . PARENT=m;NOTE=");
+        c.due(0, x.fault());
+        // Nor does it mend what is wrong there.
+        Run broken = Run.on(ROWS, "c . gene 1 12 . + . ID=g", "c . mRNA 1 12 . + . ID=m;PARENT=g",
+                "c . CDS 1 3 . + 0 PARENT=m");
+        add(NSEE, broken, "c . exon 1 6 . + . ID=g;PARENT=m");
+        add(IAE, broken, "c . exon 1 6 . + . PARENT=m;");
+        c.due(2 + 16 * 5, broken.fault());
+        Run lonely = Run.on(ROWS, "c . mRNA 1 12 . + . ID=m;PARENT=g");
+        add(IAE, lonely, "c . gene 1 12 . + . ID=g;NOTE=");
+        add(ISE, lonely, "c . gene 1 12 . + . ID=g;PARENT=m");
+        c.due(16, lonely.fault());
+        c.due(-1, lonely.about(0, 5));
+        // In a full book, too.
+        Run full = Run.on(ROWS, "c . gene 1 12 . + . ID=g", "c . mRNA 1 12 . + . ID=m;PARENT=g",
+                "c . exon 1 6 . + . PARENT=m");
+        for (int i = 3; i < 14; i++) {
+            full.put(Texts.tabs("c . gene 1 12 . + . ID=g" + i));
+        }
+        add(UOE, full, "c . exon 6 7 . + . PARENT=m");
+        add(UOE, full, "c . exon 7 8 . + . PARENT=m");
+        c.due(0, full.fault());
+        c.due(6, full.tell(1, 0));
     }
 
     private void add(String want, Run x, String line) {

@@ -199,7 +199,7 @@ final class Run {
         return n;
     }
 
-    /** Everything that later calls could tell. */
+    /** What later calls tell. */
     String state() {
         StringBuilder text = new StringBuilder();
         text.append("bases ").append(copy().length().value()).append(' ').append(basesTold());
@@ -208,7 +208,27 @@ final class Run {
         text.append(", features ").append(copy().features().value()).append(' ').append(abouts());
         text.append(", fault ").append(copy().fault().value());
         text.append(", OUT ").append(outText()).append(", book ").append(written());
+        text.append(", told ").append(tells()).append(", frames ").append(frameAnswers());
         return text.toString();
+    }
+
+    private String tells() {
+        StringBuilder text = new StringBuilder();
+        int features = Integer.parseInt(copy().features().value());
+        for (int k = 0; k < features; k++) {
+            for (int code = 0; code < 2; code++) {
+                Run other = copy();
+                String told = other.tell(k, code).value();
+                boolean isNumber = Character.isDigit(told.charAt(0));
+                text.append(told).append(isNumber ? other.outText() : "").append(' ');
+            }
+        }
+        return text.toString();
+    }
+
+    private String frameAnswers() {
+        Run other = copy();
+        return other.frames(1, 0).value() + " " + other.frames(2, 0).value();
     }
 
     private String abouts() {

@@ -42,8 +42,8 @@ final class Texts {
 
     static String out(GeneBook book) {
         StringBuilder text = new StringBuilder();
-        for (int i = 0; book.out(i) != 0; i++) {
-            text.append((char) book.out(i));
+        for (int sign = book.out(0); sign != 0; sign = book.out(text.length())) {
+            text.append((char) sign);
         }
         return text.toString();
     }
