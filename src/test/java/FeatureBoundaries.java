@@ -280,7 +280,8 @@ final class FeatureBoundaries {
     private void attributeNames() {
         taken(with("mRNA", 8, "ID=ID;PARENT=PARENT;NOTE=NOTE"));
         for (String name : new String[] {
-                "", "=", "ID", "id=", "Id=", "IDS=", "I=", "D=", "ID =", "ID==", "ID:", "XID=", " ID=", "PARENT", "parent=",
+                "", "=", "ID", "id=", "Id=", "IDS=", "I=", "D=", "ID =", "ID==", "ID:", "XID=", " ID=",
+                "PARENT", "parent=",
                 "Parent=", "PARENTS=", "PAREN=", "PARENT:", "NOTE", "note=", "Note=", "NOTES=", "NOT=", "NOTE:",
                 "ID=PARENT=", "X="}) {
             refused(gene(8, "ID=g;" + name + "n"));
@@ -321,7 +322,8 @@ final class FeatureBoundaries {
             String rest = attribute.equals("PARENT=") ? "" : ";PARENT=p";
             for (char sign = 32; sign <= 126; sign++) {
                 boolean fits = Character.isLetterOrDigit(sign);
-                for (String word : new String[] {"" + sign, "a" + sign, sign + "a", "ab" + sign + "cde", "abcde" + sign}) {
+                for (String word : new String[] {
+                        "" + sign, "a" + sign, sign + "a", "ab" + sign + "cde", "abcde" + sign}) {
                     Run x = Run.on(Run.some(9));
                     x.line(with("exon", 8, attribute + word + rest));
                     c.due(fits ? "0" : IAE, x.add());

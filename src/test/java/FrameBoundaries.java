@@ -15,13 +15,15 @@ final class FrameBoundaries {
 
     void test() {
         c.section("Terms");
-        c.clause("AN OPEN FRAME of a row of bases by a code is a stretch of codons one after the other", this::stretches);
+        c.clause("AN OPEN FRAME of a row of bases by a code is a stretch of codons one after the other",
+                this::stretches);
         c.clause("beginning with ATG", this::beginnings);
         c.clause("of which the last one is *", this::ends);
         c.clause("and no other is", this::noOtherEnd);
         c.clause("and before which, back to the beginning of the row by threes", this::startsBefore);
         c.clause("or to a codon that is *, there is no ATG", this::endsBefore);
-        c.clause("The open frames of the sequence: those of its bases, and those of its complement.", this::bothStrands);
+        c.clause("The open frames of the sequence: those of its bases, and those of its complement.",
+                this::bothStrands);
         c.clause("In order: first those of the bases, by where they begin", this::orderOfBases);
         c.clause("then those of the complement, by where they begin in that", this::orderOfComplement);
         c.section("Promise 12: frames");
@@ -101,7 +103,8 @@ final class FrameBoundaries {
             frames(1, "ATG" + end);
             frames(2, "ATG" + end, "2 1 0");
         }
-        for (String end : new String[] {"TAN", "TNA", "NAA", "TGN", "AGN", "NGA", "NNN", "TAT", "TAC", "TGG", "AGC", "CAA"}) {
+        for (String end : new String[] {
+                "TAN", "TNA", "NAA", "TGN", "AGN", "NGA", "NNN", "TAT", "TAC", "TGG", "AGC", "CAA"}) {
             both("ATG" + end);
         }
     }

@@ -210,7 +210,8 @@ final class TellBoundaries {
     }
 
     private void codonsForX() {
-        String[] none = {"NNN", "TTN", "TAN", "TGN", "CAN", "ATN", "AAN", "AGN", "GAN", "NTG", "ANG", "NGA", "TNA", "CNN",
+        String[] none = {
+            "NNN", "TTN", "TAN", "TGN", "CAN", "ATN", "AAN", "AGN", "GAN", "NTG", "ANG", "NGA", "TNA", "CNN",
             "NCN", "NNC", "NTA", "NTT", "NAA", "TNG", "NCC", "NGG", "GNG"};
         for (String form : none) {
             told("X", coded(form, '+', 0), 1, 1);

@@ -59,7 +59,8 @@ final class WriteBoundaries {
 
     private void linesAsTheyCame() {
         for (String line : new String[] {
-                "c . gene 1 1 . + . ID=g", "x.y;z=1 . gene 1 120 . - . ID=abcdef;NOTE=aZ09zA", "~ . mRNA 9 10 . + . PARENT=p",
+                "c . gene 1 1 . + . ID=g", "x.y;z=1 . gene 1 120 . - . ID=abcdef;NOTE=aZ09zA",
+                "~ . mRNA 9 10 . + . PARENT=p",
                 "! . exon 99 100 . - . PARENT=p;NOTE=n", "c . CDS 120 120 . + 0 ID=c;PARENT=p;NOTE=n",
                 "c . CDS 5 6 . - 1 PARENT=p", "c . CDS 5 6 . - 2 ID=c;PARENT=p"}) {
             written(new String[] {line}, line);
@@ -114,18 +115,21 @@ final class WriteBoundaries {
         always(gene(1, 1, "a"), gene(2, 9, "b"), gene(3, 100, "c"), gene(10, 11, "d"), gene(20, 120, "e"),
                 gene(100, 100, "f"), gene(119, 120, "g"), gene(120, 120, "h"));
         // The start comes before the end and the kind.
-        always("c . CDS 1 1 . + 0 PARENT=m", gene(2, 120, "g"), "c . exon 3 4 . - . PARENT=m", "c . mRNA 4 120 . + . PARENT=g");
+        always("c . CDS 1 1 . + 0 PARENT=m", gene(2, 120, "g"), "c . exon 3 4 . - . PARENT=m",
+                "c . mRNA 4 120 . + . PARENT=g");
     }
 
     private void byGreaterEnd() {
-        always(gene(5, 120, "a"), gene(5, 119, "b"), gene(5, 100, "c"), gene(5, 99, "d"), gene(5, 20, "e"), gene(5, 10, "f"),
-                gene(5, 9, "g"), gene(5, 5, "h"));
+        always(gene(5, 120, "a"), gene(5, 119, "b"), gene(5, 100, "c"), gene(5, 99, "d"), gene(5, 20, "e"),
+                gene(5, 10, "f"), gene(5, 9, "g"), gene(5, 5, "h"));
         // The end comes before the kind.
-        always("c . CDS 5 9 . + 0 PARENT=m", "c . exon 5 8 . + . PARENT=m", "c . mRNA 5 7 . + . PARENT=g", gene(5, 6, "g"));
+        always("c . CDS 5 9 . + 0 PARENT=m", "c . exon 5 8 . + . PARENT=m", "c . mRNA 5 7 . + . PARENT=g",
+                gene(5, 6, "g"));
     }
 
     private void byKind() {
-        always(gene(5, 9, "g"), "c . mRNA 5 9 . + . PARENT=g", "c . exon 5 9 . + . PARENT=m", "c . CDS 5 9 . + 0 PARENT=m");
+        always(gene(5, 9, "g"), "c . mRNA 5 9 . + . PARENT=g", "c . exon 5 9 . + . PARENT=m",
+                "c . CDS 5 9 . + 0 PARENT=m");
         always(gene(5, 9, "z"), "c . mRNA 5 9 . - . ID=y;PARENT=g", "b . exon 5 9 . + . ID=x;PARENT=m",
                 "a . CDS 5 9 . - 2 ID=w;PARENT=m");
     }
@@ -148,8 +152,8 @@ final class WriteBoundaries {
             genes[i] = gene(5, 9, "g" + i * 5 % 14);
         }
         written(genes, genes);
-        written(new String[] {"c . exon 5 9 . + . PARENT=b", gene(5, 9, "b"), "c . exon 5 9 . + . PARENT=a", gene(5, 9, "a")},
-                gene(5, 9, "b"), gene(5, 9, "a"), "c . exon 5 9 . + . PARENT=b", "c . exon 5 9 . + . PARENT=a");
+        String[] mixed = {"c . exon 5 9 . + . PARENT=b", gene(5, 9, "b"), "c . exon 5 9 . + . PARENT=a", gene(5, 9, "a")};
+        written(mixed, gene(5, 9, "b"), gene(5, 9, "a"), "c . exon 5 9 . + . PARENT=b", "c . exon 5 9 . + . PARENT=a");
     }
 
     private void writesTheBook() {
@@ -221,7 +225,8 @@ final class WriteBoundaries {
             c.due(0, x.out(i));
         }
         x.write();
-        for (int i : new int[] {-1, -2, -24, 24, 25, 72, 256, 1021, 1022, 1023, 65536, Integer.MIN_VALUE, Integer.MAX_VALUE}) {
+        for (int i : new int[] {
+                -1, -2, -24, 24, 25, 72, 256, 1021, 1022, 1023, 65536, Integer.MIN_VALUE, Integer.MAX_VALUE}) {
             c.due(0, x.out(i));
         }
         c.due('c' + 0, x.out(0));
