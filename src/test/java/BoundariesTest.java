@@ -5,6 +5,7 @@ public final class BoundariesTest {
 
     public static void main(String[] args) {
         Clauses clauses = new Clauses();
+        new FirstBoundaries(clauses).test();
         new TextBoundaries(clauses).test();
         new FeatureBoundaries(clauses).test();
         new BookBoundaries(clauses).test();

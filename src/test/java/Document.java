@@ -1,6 +1,7 @@
 import java.io.IOException;
 import java.nio.file.Files;
 import java.nio.file.Path;
+import java.util.ArrayList;
 import java.util.LinkedHashMap;
 import java.util.List;
 import java.util.Map;
@@ -23,6 +24,27 @@ final class Document {
             }
         }
         keep(heading, text);
+    }
+
+    /** The face's lines, and the heads of the promises, in the document's order. */
+    static List<String> face() {
+        return found("^ +public (.*);$", "The public face");
+    }
+
+    static List<String> heads() {
+        return found("^`([^`]*)`: .*$", "Promise ");
+    }
+
+    private static List<String> found(String pattern, String section) {
+        List<String> found = new ArrayList<>();
+        String heading = "";
+        for (String line : lines()) {
+            heading = line.startsWith("## ") ? line.substring(3) : heading;
+            if (heading.startsWith(section) && line.matches(pattern)) {
+                found.add(line.replaceAll(pattern, "$1"));
+            }
+        }
+        return found;
     }
 
     private static List<String> lines() {
@@ -54,11 +76,11 @@ final class Document {
         return isThere;
     }
 
-    /** The words of the terms and the promises that were never quoted. */
+    /** The words that were never quoted. The face is FaceTest's, and what is not promised nobody's. */
     String unquoted() {
         StringBuilder rest = new StringBuilder();
         for (String heading : texts.keySet()) {
-            if (heading.equals("Terms") || heading.startsWith("Promise ")) {
+            if (heading.equals("What it is") || heading.equals("Terms") || heading.startsWith("Promise ")) {
                 String words = unquoted(heading);
                 rest.append(words.isEmpty() ? "" : heading + ": " + words + "\n");
             }

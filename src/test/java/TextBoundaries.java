@@ -11,8 +11,6 @@ final class TextBoundaries {
     }
 
     void test() {
-        c.section("What it is");
-        c.clause("An object is used for at most 512 calls after it has been made", this::lastCall);
         terms();
         newObject();
         bases();
@@ -87,16 +85,6 @@ final class TextBoundaries {
         c.clause("The sequence, the line and the book are empty again", this::clearEmpties);
         c.clause("the book are empty again", this::clearForgetsTheBook);
         c.clause("(OUT stays)", this::clearLeavesOut);
-    }
-
-    private void lastCall() {
-        Run x = Run.on("ATGTAA", "c . gene 1 6 . + . ID=g", "c . mRNA 1 6 . + . ID=m;PARENT=g",
-                "c . exon 1 6 . + . PARENT=m", "c . CDS 1 6 . + 0 PARENT=m");
-        while (x.calls() < Run.MOST_CALLS - 2) {
-            x.write();
-        }
-        c.due(2, x.tell(1, 1));
-        c.due('M' + 0, x.out(0));
     }
 
     private void whatIsABase() {

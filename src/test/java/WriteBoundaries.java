@@ -152,7 +152,8 @@ final class WriteBoundaries {
             genes[i] = gene(5, 9, "g" + i * 5 % 14);
         }
         written(genes, genes);
-        String[] mixed = {"c . exon 5 9 . + . PARENT=b", gene(5, 9, "b"), "c . exon 5 9 . + . PARENT=a", gene(5, 9, "a")};
+        String[] mixed = {
+            "c . exon 5 9 . + . PARENT=b", gene(5, 9, "b"), "c . exon 5 9 . + . PARENT=a", gene(5, 9, "a")};
         written(mixed, gene(5, 9, "b"), gene(5, 9, "a"), "c . exon 5 9 . + . PARENT=b", "c . exon 5 9 . + . PARENT=a");
     }
 
